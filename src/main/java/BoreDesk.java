@@ -238,7 +238,7 @@ public final class BoreDesk {
         }
         double beyondAll = 1e300 * 1e300;
         Log changed = log.twin();
-        changed.store(i, below ? -beyondAll : beyondAll);
+        changed.store(i, below ? 0 - beyondAll : beyondAll);
         keep(now.withLog(h, s, changed));
         return answer(1);
     }
@@ -372,7 +372,7 @@ public final class BoreDesk {
         if (fault.shifted) {
             return refuse(SHIFTED_OR_BROKEN);
         }
-        keep(now.withLayer(l, fault.withLine(a, b, c)));
+        keep(now.withLayer(l, fault.withLine(a, b, c), now.holes));
         return answer(1);
     }
 
@@ -387,7 +387,7 @@ public final class BoreDesk {
         if (fault.shifted) {
             return refuse(SHIFTED_OR_BROKEN);
         }
-        keep(now.withLayer(l, fault.withThrow(by)));
+        keep(now.withLayer(l, fault.withThrow(by), now.holes));
         return answer(by);
     }
 
@@ -407,7 +407,7 @@ public final class BoreDesk {
         if (fault.shifted == forth) {
             return refuse(SHIFTED_OR_BROKEN);
         }
-        Survey next = now.withLayer(l, fault.withShift(forth));
+        Hole[] moved = now.holes.clone();
         int many = 0;
         for (int h = 0; h < now.holes.length; h++) {
             Hole hole = now.holes[h];
@@ -416,9 +416,9 @@ public final class BoreDesk {
                 return refuse(OUT_OF_ORDER);
             }
             many += now.countBelow(hole, l);
-            next.holes[h] = now.slid(hole, l, move);
+            moved[h] = now.slid(hole, l, move);
         }
-        keep(next);
+        keep(now.withLayer(l, fault.withShift(forth), moved));
         return answer(many);
     }
 
@@ -662,7 +662,9 @@ public final class BoreDesk {
         }
         treeSlot = s;
         edgeCount = 0;
-        Arrays.fill(joined, false);
+        for (int h = 0; h < joined.length; h++) {
+            joined[h] = false;
+        }
         int root = firstWithCodes(s);
         if (root < 0) {
             return answer(0);
@@ -1447,11 +1449,10 @@ public final class BoreDesk {
             return new Survey(holes, more, triangles, window, costs);
         }
 
-        /** Its HOLES are a row of its own, too, since slide() sets them next. */
-        Survey withLayer(int l, Layer layer) {
+        Survey withLayer(int l, Layer layer, Hole[] moved) {
             Layer[] changed = layers.clone();
             changed[l] = layer;
-            return new Survey(holes.clone(), changed, triangles, window, costs);
+            return new Survey(moved, changed, triangles, window, costs);
         }
 
         Survey withNewTriangle(Triangle triangle) {
