@@ -505,6 +505,13 @@ public final class HolesTest {
             kind(0, 2) = 3
             splice(0, 0, 0, 0, 3) = 3
             kind(0, 0) = 2
+            hole(1, 1) = 1
+            splice(0, 0, 1, 0, 6) ! 1
+            copied() = 3
+            splice(0, 0, 0, 3, 3) = 3
+            splice(0, 0, 1, 0, 6) = 6
+            copied() = 6
+            kind(1, 5) = 3
             """);
     }
 

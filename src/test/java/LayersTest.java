@@ -627,6 +627,9 @@ public final class LayersTest {
             tell(4) = 4002
             lay(4, 1, 10000000) = 10000000
             drift(0, 1) = 49975060
+            lay(0, 1, 31) = 31
+            drift(0, 1) = 49975120
+            drift(1, 0) = -49975120
             """);
     }
 }
