@@ -653,6 +653,12 @@ public final class HolesTest {
         StringBuilder deep = new StringBuilder("hole(0, 0) = 0\n");
         deep.append("255 * lack(0, 0)\n255 * undo()\nundo() = 1\nundo() = 0\nkind(0, 0) ! 1\n");
         Script.run("Promise 27: as deep as the calls of an object go", deep.toString());
+        Script.run("beyond the calls of an object, where answers are free, it ends and throws nothing", """
+            hole(0, 0) = 0
+            1000 * lack(0, 0)
+            513 * undo()
+            kind(0, 0) = 0
+            """);
     }
 
     private static void told() {

@@ -519,6 +519,24 @@ public final class LayersTest {
             lay(1, 0, 500) = 500
             back(0) = 1
             """);
+        Script.run("3 LAYERS: LINE and THROW at first, and the first LAYER", """
+            layer(0) = 0
+            layer(3) = 1
+            hole(1, 0) = 0
+            side(1, 0) = 0
+            line(1, 1, 0, 0) = 1
+            side(1, 0) = 1
+            lay(0, 0, 10000000) = 10000000
+            lay(1, 0, 9) = 9
+            shift(1) = 1
+            top(0, 0) = 10000000
+            back(1) = 1
+            throwOf(1, 1) = 1
+            shift(1) ! 7
+            lay(0, 0, 9999999) = 9999999
+            shift(1) = 1
+            top(0, 0) = 10000000
+            """);
         Script.run("Promises 23, 24: shift, back of a Cut", """
             layer(3) = 0
             layer(0) = 1
@@ -630,6 +648,16 @@ public final class LayersTest {
             lay(0, 1, 31) = 31
             drift(0, 1) = 49975120
             drift(1, 0) = -49975120
+            10 * layer(4)
+            drift(1, 0) = -49975120
+            layer(0) = 15
+            drift(1, 0) = -49975120
+            lay(15, 0, 10000000) = 10000000
+            lay(15, 1, 10000000) = 10000000
+            lay(15, 0, 9000000) = 9000000
+            drift(1, 0) = -51975120
+            find(15) = 0
+            tell(15) = 2
             """);
     }
 }

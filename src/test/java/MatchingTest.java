@@ -12,6 +12,7 @@ public final class MatchingTest {
             againstAllMatches(new Random(seed));
         }
         longestLogs();
+        widestTree();
         Script.finish();
     }
 
@@ -356,6 +357,23 @@ public final class MatchingTest {
             i -= way == 2 ? 0 : 1;
             j -= way == 1 ? 0 : 1;
         }
+    }
+
+    private static void widestTree() {
+        BoreDesk desk = new BoreDesk();
+        for (int h = 0; h < 24; h++) {
+            desk.hole(h % 2 == 0 ? h : -h, 0);
+            desk.feed(0, 0, 0, 0, h);
+            desk.codes(h, 1);
+        }
+        Script.due("tree", desk.tree(1), 24);
+        // 0 at 0, 1 at -1, 2 at 2, 3 at -3: each next one goes on from the one two ahead of it.
+        Script.due("edge", desk.edge(0), 100);
+        for (int k = 1; k < 23; k++) {
+            Script.due("edge", desk.edge(k), 100 * (k + 1) + k - 1);
+        }
+        Script.due("edge", desk.edge(23), -1);
+        Script.due("along", desk.along(), 23 * 3);
     }
 
     private static void longestLogs() {

@@ -84,6 +84,10 @@ public final class SurfacesTest {
             isBroken(0) = 0               # -1, 0, 0
             line(0, 1, -1, 0) = 1
             isBroken(0) = 1               # 0, 1, -1
+            line(0, 1, 1, 5) = 1
+            isBroken(0) = 1               # -1, 1, 1
+            line(0, -1, 0, -9) = 1
+            isBroken(0) = 1               # 1, -1, 1
             line(0, 1, 0, 11) = 1
             isBroken(0) = 0
             line(1, 1, 0, -1) = 1
@@ -228,6 +232,12 @@ public final class SurfacesTest {
             volume(0, 1) = 84
             lay(1, 3, -1) = -1
             volumeOf(1, 0, 1) ! 10        # ahead of the lack of TOPS
+            lay(1, 0, -1) = -1
+            volumeOf(0, 0, 1) ! 9
+            volumeOf(0, 1, 0) ! 9
+            volume(0, 1) = 0
+            height(1, 1, 1, 0) ! 9
+            height(0, 0, 0, 0) = 10
             """);
     }
 
