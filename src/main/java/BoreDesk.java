@@ -874,16 +874,20 @@ public final class BoreDesk {
 
     // ---- what a call names: null, and the status that tells why, if it can't be had
 
-    private Hole holeAt(int h) {
-        if (h < 0 || h >= MOST_HOLES) {
+    private boolean wasMade(int number, int most, int made) {
+        if (number < 0 || number >= most) {
             status = BEYOND;
-            return null;
+            return false;
         }
-        if (h >= now.holes.length) {
+        if (number >= made) {
             status = NOT_THERE;
-            return null;
+            return false;
         }
-        return now.holes[h];
+        return true;
+    }
+
+    private Hole holeAt(int h) {
+        return wasMade(h, MOST_HOLES, now.holes.length) ? now.holes[h] : null;
     }
 
     private Hole holeOfSlot(int h, int s) {
@@ -933,15 +937,7 @@ public final class BoreDesk {
     }
 
     private Layer layerAt(int l) {
-        if (l < 0 || l >= MOST_LAYERS) {
-            status = BEYOND;
-            return null;
-        }
-        if (l >= now.layers.length) {
-            status = NOT_THERE;
-            return null;
-        }
-        return now.layers[l];
+        return wasMade(l, MOST_LAYERS, now.layers.length) ? now.layers[l] : null;
     }
 
     private Layer faultAt(int l) {
@@ -954,15 +950,7 @@ public final class BoreDesk {
     }
 
     private Triangle triangleAt(int t) {
-        if (t < 0 || t >= MOST_TRIANGLES) {
-            status = BEYOND;
-            return null;
-        }
-        if (t >= now.triangles.length) {
-            status = NOT_THERE;
-            return null;
-        }
-        return now.triangles[t];
+        return wasMade(t, MOST_TRIANGLES, now.triangles.length) ? now.triangles[t] : null;
     }
 
     private Triangle wholeTriangleOver(int x, int y) {
