@@ -1292,7 +1292,7 @@ public final class BoreDesk {
         }
 
         int sideOf(int x, int y) {
-            return Integer.signum(a * x + b * y - c);
+            return Integer.compare(a * x + b * y, c);
         }
 
         int moveOf(Hole hole) {
@@ -1326,7 +1326,7 @@ public final class BoreDesk {
             xs = new int[] {first.x, second.x, third.x};
             ys = new int[] {first.y, second.y, third.y};
             long turned = turnTo(0, first.x, first.y);
-            turn = Long.signum(turned);
+            turn = Long.compare(turned, 0);
             twiceArea = Math.abs(turned);
         }
 
