@@ -62,20 +62,11 @@ public final class AnyCallsTest {
         return args;
     }
 
-    /** The digest without ran() and copied(), which undo() leaves: times 31^6, which loses nothing. */
-    private long state() {
-        long tail = 0;
-        for (int kind = 0; kind < 5; kind++) {
-            tail = tail * 31 + desk.ran(kind);
-        }
-        return desk.digest() - (tail * 31 + desk.copied());
-    }
-
     private void run(List<Method> methods) {
         for (int k = 0; k < 400; k++) {
             Method method = methods.get(random.nextInt(methods.size()));
             Object[] args = arguments(method);
-            long before = state();
+            long before = Script.stateOf(desk);
             long statusBefore = desk.status();
             long got = Script.call(desk, method, args);
             Script.due(method.getName() + " of a second object", Script.call(twin, method, args), got);
@@ -88,7 +79,7 @@ public final class AnyCallsTest {
         }
         while (!states.isEmpty()) {
             Script.due("undo at the end", desk.undo(), 1);
-            Script.due("undo at the end leads back", state(), states.pop());
+            Script.due("undo at the end leads back", Script.stateOf(desk), states.pop());
         }
         Script.due("the last undo", desk.undo(), 0);
     }
@@ -109,7 +100,7 @@ public final class AnyCallsTest {
         if (name.equals("undo")) {
             Script.due("undo", got, states.isEmpty() ? 0 : 1);
             if (got == 1) {
-                Script.due("undo leads back", state(), states.pop());
+                Script.due("undo leads back", Script.stateOf(desk), states.pop());
                 holes = holeCounts.pop();
             }
         } else if (CHANGE.contains(name) && (desk.status() == 0 || name.equals("splice") && someCame(args))) {
@@ -117,7 +108,7 @@ public final class AnyCallsTest {
             holeCounts.push(holes);
             holes += name.equals("hole") ? 1 : 0;
         } else {
-            Script.due(name + " changes nothing", state(), before);
+            Script.due(name + " changes nothing", Script.stateOf(desk), before);
         }
     }
 

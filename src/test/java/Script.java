@@ -3,6 +3,8 @@ import java.lang.reflect.Method;
 import java.util.HashMap;
 import java.util.Map;
 import java.util.Set;
+import java.util.regex.Matcher;
+import java.util.regex.Pattern;
 
 /**
  * Runs written calls on a new BoreDesk. A row is one of
@@ -10,15 +12,19 @@ import java.util.Set;
  *   call(1, 2) = 3       it answers 3, with STATUS 0 (a call that leaves STATUS must leave it)
  *   call(1, 2) ! 6       it answers -1 with STATUS 6, and the digest is as it was
  *   15 * call(1, 2)      it is called so often, and is never refused
+ *   k from 0 to 9: row   the row, once with each of these numbers for k, and what k+1, k-3 are for these
  *   same d               the digest is kept by a name, or must be the one that is kept by it
+ *   not d                the digest must not be the one that is kept by this name
+ *   digest of 1, 2 | 3   the digest is that of these numbers, one behind the other
  *
  * and '#' begins a remark.
  */
 final class Script {
     private static final Set<String> LEAVE_STATUS =
             Set.of("copied", "rows", "triangles", "ran", "digest", "status");
-    /** What a refused call of these may change stands in the digest: ran() and copied(). */
-    private static final Set<String> MAY_CHANGE_DIGEST = Set.of("pick", "splice");
+    private static final Pattern LOOP = Pattern.compile("k from (-?\\d+) to (-?\\d+): (.*)");
+    private static final Pattern COUNTER = Pattern.compile("\\bk([+-]\\d+)?\\b");
+    private static final Pattern NUMBER = Pattern.compile("-?\\d+");
     private static final Map<String, Method> METHODS = new HashMap<>();
 
     private static int wrong = 0;
@@ -45,7 +51,6 @@ final class Script {
         for (String line : text.split("\n")) {
             String row = line.replaceAll("#.*", "").trim();
             if (!row.isEmpty()) {
-                rows++;
                 script.runRow(row);
             }
         }
@@ -87,8 +92,16 @@ final class Script {
     }
 
     private void runRow(String row) {
-        if (row.startsWith("same ")) {
-            same(row);
+        rows++;
+        Matcher loop = LOOP.matcher(row);
+        if (loop.matches()) {
+            for (int k = Integer.parseInt(loop.group(1)); k <= Integer.parseInt(loop.group(2)); k++) {
+                runRow(withCounter(loop.group(3), k));
+            }
+        } else if (row.startsWith("same ") || row.startsWith("not ")) {
+            compare(row);
+        } else if (row.startsWith("digest of")) {
+            digestOf(row);
         } else if (Character.isDigit(row.charAt(0))) {
             repeat(row);
         } else if (row.contains("!")) {
@@ -98,11 +111,39 @@ final class Script {
         }
     }
 
-    private void same(String row) {
-        Long before = kept.putIfAbsent(row, desk.digest());
-        if (before != null && before != desk.digest()) {
-            fail(title + ": " + row + ": the digest is another one");
+    private static String withCounter(String row, int k) {
+        return COUNTER.matcher(row).replaceAll(found -> {
+            int more = found.group(1) == null ? 0 : Integer.parseInt(found.group(1));
+            return String.valueOf(k + more);
+        });
+    }
+
+    private void compare(String row) {
+        String name = row.substring(row.indexOf(' ') + 1);
+        boolean same = kept.computeIfAbsent(name, unused -> desk.digest()) == desk.digest();
+        if (same != row.startsWith("same ")) {
+            fail(title + ": " + row + ": the digest is " + (same ? "the same" : "another one"));
         }
+    }
+
+    private void digestOf(String row) {
+        long d = 11;
+        Matcher number = NUMBER.matcher(row);
+        while (number.find()) {
+            d = d * 31 + Long.parseLong(number.group());
+        }
+        if (desk.digest() != d) {
+            fail(title + ": the digest is not the " + row);
+        }
+    }
+
+    /** The digest without ran() and copied(), the last six numbers that it goes over. */
+    static long stateOf(BoreDesk desk) {
+        long tail = 0;
+        for (int kind = 0; kind < 5; kind++) {
+            tail = tail * 31 + desk.ran(kind);
+        }
+        return desk.digest() - (tail * 31 + desk.copied());
     }
 
     private void repeat(String row) {
@@ -121,12 +162,13 @@ final class Script {
         int mark = row.indexOf('!');
         String text = row.substring(0, mark);
         long want = Long.parseLong(row.substring(mark + 1).trim());
-        long before = desk.digest();
+        long before = stateOf(desk);
         long got = callText(text);
         if (got != -1 || desk.status() != want) {
             fail(title + ": " + text + "answered " + got + " with STATUS " + desk.status() + ", due is STATUS " + want);
         }
-        if (!MAY_CHANGE_DIGEST.contains(nameOf(text)) && before != desk.digest()) {
+        boolean stopped = nameOf(text).equals("splice") && desk.copied() > 0;
+        if (!stopped && before != stateOf(desk)) {
             fail(title + ": " + text + "was refused and changed the digest");
         }
     }
