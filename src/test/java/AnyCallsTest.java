@@ -9,7 +9,8 @@ import java.util.Set;
 
 /**
  * Any calls, of wild and of likely arguments: none throws; a refused one answers -1 and changes nothing;
- * the TOPS of BEDS stay in ORDER; undo() leads back through every state; a second object answers alike.
+ * the TOPS of BEDS stay in ORDER; undo() leads back through every state; a second object answers alike, and so
+ * does a third one that is spared the refused calls, so that these leave TAPE, ROWS and EDGES, too.
  */
 public final class AnyCallsTest {
     private static final Set<String> CHANGE = Set.of("hole", "doubles", "floats", "shorts", "codes", "lack", "start",
@@ -25,6 +26,7 @@ public final class AnyCallsTest {
     private final int wildness;
     private final BoreDesk desk = new BoreDesk();
     private final BoreDesk twin = new BoreDesk();
+    private final BoreDesk spared = new BoreDesk();
     private final Deque<Long> states = new ArrayDeque<>();
     private final Deque<Integer> holeCounts = new ArrayDeque<>();
     private int holes = 0;
@@ -70,6 +72,7 @@ public final class AnyCallsTest {
             long statusBefore = desk.status();
             long got = Script.call(desk, method, args);
             Script.due(method.getName() + " of a second object", Script.call(twin, method, args), got);
+            checkSpared(method, args, got);
             checkStatus(method.getName(), got, before, statusBefore);
             checkChange(method.getName(), args, got, before);
             if (k % 50 == 49) {
@@ -82,6 +85,15 @@ public final class AnyCallsTest {
             Script.due("undo at the end leads back", Script.stateOf(desk), states.pop());
         }
         Script.due("the last undo", desk.undo(), 0);
+    }
+
+    /** A refused pick() may count for ran(), and a splice() that stopped for copied(): those are not spared. */
+    private void checkSpared(Method method, Object[] args, long got) {
+        String name = method.getName();
+        boolean mayChange = name.equals("pick") || name.equals("splice");
+        if (!name.equals("status") && (LEAVE_STATUS.contains(name) || desk.status() == 0 || mayChange)) {
+            Script.due(name + " of one that is spared refused calls", Script.call(spared, method, args), got);
+        }
     }
 
     private void checkStatus(String name, long got, long before, long statusBefore) {

@@ -15,9 +15,11 @@ import java.util.regex.Pattern;
  *   k from 0 to 9: row   the row, once with each of these numbers for k, and what k+1, k-3 are for these
  *   same d               the digest is kept by a name, or must be the one that is kept by it
  *   not d                the digest must not be the one that is kept by this name
+ *   same state d         likewise of the digest without ran() and copied(), which undo() leaves; and not state d
  *   digest of 1, 2 | 3   the digest is that of these numbers, one behind the other
  *
- * and '#' begins a remark.
+ * and '#' begins a remark. As digest() and status() are asked beside each row, a desk may get more than its 512
+ * calls here: this one goes on alike then, but for an undo() of what lies 512 changes back.
  */
 final class Script {
     private static final Set<String> LEAVE_STATUS =
@@ -120,7 +122,8 @@ final class Script {
 
     private void compare(String row) {
         String name = row.substring(row.indexOf(' ') + 1);
-        boolean same = kept.computeIfAbsent(name, unused -> desk.digest()) == desk.digest();
+        long now = name.startsWith("state ") ? stateOf(desk) : desk.digest();
+        boolean same = kept.computeIfAbsent(name, unused -> now) == now;
         if (same != row.startsWith("same ")) {
             fail(title + ": " + row + ": the digest is " + (same ? "the same" : "another one"));
         }

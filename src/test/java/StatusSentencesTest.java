@@ -28,6 +28,10 @@ public final class StatusSentencesTest {
             codes(1, 0) = 2
             doubles(0, 1, 3) = 3
             shorts(0, 2, 3) = 3
+            floats(2, 3, 2) = 2
+            none(2, 3, 0) = 1
+            endless(2, 3, 1, true) = 1
+            codes(2, 4) = 0
             match(0, 0, 1, 0) = 4
             tree(0) = 2
             layer(0) = 0
@@ -84,7 +88,7 @@ public final class StatusSentencesTest {
             "height(0, 1, 1, 0) ! 9", "thickness(0, 3, 1, 1, 0) ! 9", "volumeOf(0, 0, 3) ! 9", "volume(0, 4) ! 1"};
 
     /** Calls that are done on the desk above, each with another state behind it. */
-    private static final String[] CHANGES = {"hole(5, 5) = 3", "doubles(0, 2, 3) = 3", "floats(0, 2, 3) = 3",
+    private static final String[] CHANGES = {"hole(5, 5) = 4", "doubles(0, 2, 3) = 3", "floats(0, 2, 3) = 3",
             "shorts(0, 2, 300) = 300", "codes(0, 1) = 7", "lack(0, 0) = 1", "start(0, 0, 0, 99) = 1",
             "put(0, 1, 2, 1, 0) = 1", "fill(0, 2, 0, 3, 1, 0, 0) = 3", "none(0, 1, 0) = 1", "endless(0, 1, 0, false) = 1",
             "copy(0, 0, 2, 1, 0, 1, 1) = 1", "splice(0, 0, 2, 0, 1) = 1", "splice(0, 1, 1, 1, 3) ! 1",
@@ -94,15 +98,29 @@ public final class StatusSentencesTest {
     /** Calls that are done on it and change nothing. */
     private static final String[] NO_CHANGES = {"shorts(0, 2, 3) = 3", "doubles(0, 1, 3) = 3", "lack(2, 5) = 0",
             "start(0, 0, 0, 100) = 1", "put(0, 1, 2, 0, 0) = 0", "fill(0, 2, 0, 3, 0, 0, 0) = 3",
-            "fill(0, 2, 0, 0, 1, 0, 0) = 0", "copy(0, 0, 1, 0, 0, 1, 3) = 3", "copy(0, 0, 0, 1, 0, 0, 0) = 0",
+            "fill(0, 2, 0, 0, 1, 0, 0) = 0", "none(2, 3, 0) = 1", "endless(2, 3, 1, true) = 1", "end(0) = 0\ncodes(2, 4) = 0",
+            "copy(0, 0, 1, 0, 0, 1, 3) = 3", "copy(0, 0, 0, 1, 0, 0, 0) = 0",
             "splice(0, 1, 2, 1, 2) = 2", "window(0, 0, 1, true) = 1", "lay(0, 0, 50) = 50", "lay(0, 1, -1) = -1",
             "pick(1, 0, 2) = 100", "line(1, 0, 0, 0) = 1", "throwOf(1, 0) = 0", "costs(3, 1, 2) = 1"};
+
+    private static final String TWO_CALLS_OF_COSTS = """
+            check() = 4
+            undo() = 1
+            check() = 14
+            undo() = 1
+            check() = 4
+            """;
+    private static final String LATEST = "undo() takes back the latest call that was done and is not taken back yet, of those from"
+            + " hole() to triangle() in the order below";
 
     public static void main(String[] args) {
         statuses();
         refusals();
         order();
-        undo();
+        undoOfEachCall();
+        undoOfTheLatest();
+        undoOfSplice();
+        leftByUndo();
         Sentence.finishParts("6 STATUS");
     }
 
@@ -301,17 +319,20 @@ public final class StatusSentencesTest {
         return beyond(call.replace("H", "0"), "S", -1, 6);
     }
 
-    private static void undo() {
-        String latest = "undo() takes back the latest call that was done and is not taken back yet, of those from hole() to"
-                + " triangle() in the order below";
+    private static void undoOfEachCall() {
+        // Ahead of it two calls stand that end as they began: what is taken back is told by the next two undo().
+        String ahead = "hole(9, 9) = 3\ncosts(9, 8, 7) = 1\ncosts(3, 1, 2) = 1\nsame state before\n";
+        String behind = "undo() = 1\nsame state before\n" + TWO_CALLS_OF_COSTS;
         for (String row : CHANGES) {
-            // The HOLE is for the TRIANGLE, the first undo() that follows for its own call alone.
-            String desk = DESK + (row.startsWith("triangle") ? "hole(9, 9) = 3\n" : "");
-            Sentence.test("6 STATUS", latest, desk + "costs(9, 8, 7) = 1\ncosts(3, 1, 2) = 1\nsame before\n" + row
-                    + "\nnot before\nundo() = 1\n" + (row.startsWith("splice") || row.startsWith("pick") ? "" : "same before\n")
-                    + LEFT_BY_UNDO + (row.startsWith("codes") ? "end(0) = 0\nend(1) ! 2\n" : "end(7) = 7\nend(8) ! 2\n"));
+            Sentence.test("6 STATUS", LATEST, DESK + ahead + row + "\nnot state before\n" + behind);
         }
-        Sentence.test("6 STATUS", latest, """
+        for (String row : NO_CHANGES) {
+            Sentence.test("6 STATUS", ", even if it changed nothing", DESK + ahead + row + "\nsame state before\n" + behind);
+        }
+    }
+
+    private static void undoOfTheLatest() {
+        Sentence.test("6 STATUS", LATEST, """
             hole(0, 0) = 0
             hole(1, 0) = 1
             shorts(0, 0, 2) = 2
@@ -327,7 +348,7 @@ public final class StatusSentencesTest {
             kind(0, 0) ! 1
             undo() = 0
             """);
-        Sentence.test("6 STATUS", latest, DESK + """
+        Sentence.test("6 STATUS", LATEST, DESK + """
             feed(1, 2, 3, 4, 5) = 27               # none of these counts
             end(7) = 7
             kind(0, 0) = 4
@@ -354,11 +375,9 @@ public final class StatusSentencesTest {
             undo() = 1                             # of pick()
             top(1, 0) = 60
             """);
-        for (String row : NO_CHANGES) {
-            Sentence.test("6 STATUS", ", even if it changed nothing", DESK + "costs(9, 8, 7) = 1\ncosts(3, 1, 2) = 1\n"
-                    + "same before\n" + row + (row.startsWith("pick") ? "\nran(2) = 2" : "\nsame before") + "\nundo() = 1\n"
-                    + LEFT_BY_UNDO);
-        }
+    }
+
+    private static void undoOfSplice() {
         Sentence.test("6 STATUS", "(a splice() that stopped counts, if some have come)", DESK + """
             same before
             splice(0, 1, 1, 1, 3) ! 1
@@ -374,8 +393,11 @@ public final class StatusSentencesTest {
             undo() = 1                             # of pick()
             top(1, 0) = 60
             """);
+    }
+
+    private static void leftByUndo() {
         Sentence.test("6 STATUS", "TAPE, ROWS, EDGES, copied(), ran() stay as they are.", DESK + """
-            18 * undo()
+            22 * undo()
             kind(0, 0) ! 1                         # all is taken back
             tell(0) ! 1
             triangles() = 0
@@ -395,18 +417,4 @@ public final class StatusSentencesTest {
             value(0, 0, 3) = 1
             """);
     }
-
-    /** Behind the undo() of one call: what stands ahead of it are two calls of costs(), and all stays that undo() leaves. */
-    private static final String LEFT_BY_UNDO = """
-            costs(1, 1, 1) = 1
-            undo() = 1
-            rows() = 4
-            check() = 4
-            undo() = 1
-            check() = 14
-            undo() = 1
-            check() = 4
-            row(3) = 4000
-            edge(0) = 100
-            """;
 }

@@ -281,6 +281,18 @@ public final class SurfaceSentencesTest {
             edge(0) = 200
             edge(1) = 102
             """);
+        Sentence.test("4 MATCHING", next, """
+            hole(5, 0) = 0
+            hole(0, 0) = 1
+            hole(9, 0) = 2
+            k from 0 to 2: codes(k, 0) = 0
+            tree(0) = 3
+            edge(0) = 200
+            edge(1) = 100
+            lack(0, 0) = 1
+            tree(0) = 2
+            edge(0) = 201                          # what was joined by the one ahead of it does not count
+            """);
         Sentence.test("4 MATCHING", ", by an EDGE from the nearest joined one (of several the least number).", """
             hole(0, 0) = 0
             hole(4, 0) = 1
@@ -358,6 +370,17 @@ public final class SurfaceSentencesTest {
             hole(-1, 6) = 9
             hole(6, -1) = 10
             hole(20, 20) = 11
+            hole(7, 7) = 12
+            hole(20, 8) = 13
+            hole(8, 20) = 14
+            triangle(0, 1, 2) = 0
+            triangle(12, 13, 14) = 1               # an edge of the first alone lies between them
+            undo() = 1
+            undo() = 1
+            triangle(12, 13, 14) = 0
+            triangle(0, 1, 2) = 1                  # and the other way about
+            undo() = 1
+            undo() = 1
             triangle(0, 1, 2) = 0
             triangle(1, 2, 0) ! 6                  # the same one
             triangle(2, 1, 0) ! 6
@@ -506,6 +529,13 @@ public final class SurfaceSentencesTest {
             thickness(1, 0, 1, 0, 1) = 6           # what is below 0 is the upper part
             thickness(0, 0, 1, 0, 0) = 0
             thickness(0, 0, 1, 0, 1) = 1
+            hole(6, 7) = 4
+            hole(7, 7) = 5
+            hole(6, 8) = 6
+            triangle(4, 5, 6) = 2                  # the least TRIANGLE
+            k from 4 to 6: lay(0, k, k) = k
+            height(0, 7, 7, 0) = 5
+            height(0, 7, 7, 1) = 1
             """);
         Sentence.test("5 SURFACES", "9: no TRIANGLE has it; 10: it is BROKEN; 9: a TOP is lacking.", """
             layer(2) = 0

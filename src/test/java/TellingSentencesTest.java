@@ -145,6 +145,10 @@ public final class TellingSentencesTest {
             k from 0 to 1: part(0, k, 0, 3, -1, 0) = -16    # -16.5 and -0.5
             k from 0 to 1: part(0, k, 0, 3, -1, 1) = 0
             k from 0 to 1: part(0, k, 0, 2147483647, 96, 1) = -17
+            k from 0 to 1: put(0, k, 0, 3, -2) = 0
+            k from 0 to 1: part(0, k, 0, 1, -1, 0) = 0      # 0.5 and 0.25
+            k from 0 to 1: put(0, k, 0, -3, -2) = 0
+            k from 0 to 1: part(0, k, 0, 1, -1, 0) = 0
             k from 0 to 1: put(0, k, 0, 0, 0) = 0
             k from 0 to 1: part(0, k, 0, 5, 0, 0) = 0
             k from 0 to 1: part(0, k, 0, 5, 0, 1) = 0
@@ -648,6 +652,15 @@ public final class TellingSentencesTest {
             check() = 30
             undo() = 1
             check() = 0
+            codes(0, 2) = 0
+            match(0, 2, 0, 1) = 0                  # 3 3, of the other alone
+            costs(0, 7, 30) = 1
+            check() = 37
+            match(0, 1, 0, 2) = 37                 # of the first alone
+            costs(0, 30, 7) = 1
+            check() = 37
+            costs(0, 1, 7) = 1
+            check() = 8
             """);
         Sentence.test("Promise 43", ", by the LOGS as they were matched.", """
             hole(0, 0) = 0
@@ -670,6 +683,13 @@ public final class TellingSentencesTest {
             check() = 4
             costs(3, 5, 7) = 1
             check() = 17
+            k from 0 to 1: hole(k, 0) = k
+            feed(1, 2, 3, 4, 5) = 20
+            codes(0, 0) = 20
+            codes(1, 0) = 0
+            tree(0) = 2
+            along() = 120
+            check() = 17                           # other MATCHES in between change nothing
             """);
         Sentence.test("Promise 43", "9: nothing was matched.", """
             check() ! 9

@@ -803,8 +803,9 @@ public final class TermsSentencesTest {
     }
 
     private static void shifts() {
-        Sentence.test("3 LAYERS", "It may be SHIFTED: in each HOLE where it has a TOP F, each TOP of a BED that is greater than"
-                + " F grows by the MOVE: on SIDE 1 THROW; of a Cut on SIDE -1 less THROW; else 0.", """
+        String grows = "It may be SHIFTED: in each HOLE where it has a TOP F, each TOP of a BED that is greater than F grows by"
+                + " the MOVE: on SIDE 1 THROW; of a Cut on SIDE -1 less THROW; else 0.";
+        Sentence.test("3 LAYERS", grows, """
             layer(2) = 0
             layer(3) = 1
             layer(0) = 2
@@ -837,6 +838,22 @@ public final class TermsSentencesTest {
             top(4, 1) = 1000
             top(4, 2) = 950                        # SIDE -1 of a Cut
             top(4, 3) = 1000
+            """);
+        Sentence.test("3 LAYERS", grows, """
+            layer(4) = 0                           # the first LAYER, and the last
+            k from 1 to 14: layer(2) = k
+            layer(3) = 15
+            hole(5, 0) = 0
+            line(15, 1, 0, 0) = 1
+            throwOf(15, 100000) = 100000
+            lay(0, 0, 9900000) = 9900000
+            lay(15, 0, 9899999) = 9899999
+            shift(15) = 1
+            top(0, 0) = 10000000
+            back(15) = 1
+            top(0, 0) = 9900000
+            lay(0, 0, 9900001) = 9900001
+            shift(15) ! 7
             """);
         Sentence.test("3 LAYERS", "Refused (7) if one of those would be no longer greater than F, or above 10000000.", """
             layer(3) = 0
