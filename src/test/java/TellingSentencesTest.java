@@ -684,11 +684,12 @@ public final class TellingSentencesTest {
             costs(3, 5, 7) = 1
             check() = 17
             k from 0 to 1: hole(k, 0) = k
-            feed(1, 2, 3, 4, 5) = 20
-            codes(0, 0) = 20
-            codes(1, 0) = 0
+            codes(0, 0) = 0
+            feed(16909060, 0, 0, 0, 0) = 20
+            end(4) = 4
+            codes(1, 0) = 4
             tree(0) = 2
-            along() = 120
+            along() = 28
             check() = 17                           # other MATCHES in between change nothing
             """);
         Sentence.test("Promise 43", "9: nothing was matched.", """
