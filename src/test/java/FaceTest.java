@@ -29,13 +29,16 @@ public final class FaceTest {
         }
         Script.due("classes, twelve at most", Math.max(BoreDesk.class.getDeclaredClasses().length + 1, 12), 12);
         source(Files.readString(Path.of("src/main/java/BoreDesk.java")));
-        Script.finish();
+        Sentence.finishParts("The public face");
     }
 
     private static void face(String document) {
         Set<String> due = new TreeSet<>();
         Matcher matcher = FACE.matcher(document);
+        Sentence.quote("The public face", "public final class BoreDesk {");
+        Sentence.quote("The public face", "public BoreDesk();");
         while (matcher.find()) {
+            Sentence.quote("The public face", matcher.group().trim());
             due.add(matcher.group(1) + "(" + matcher.group(2).replaceAll(" \\w+(?=,|$)", "").replace(" ", "") + ")");
         }
         Set<String> has = new TreeSet<>();
@@ -57,7 +60,8 @@ public final class FaceTest {
         Constructor<?>[] constructors = BoreDesk.class.getDeclaredConstructors();
         Script.due("constructors", constructors.length, 1);
         Script.due("its parameters", constructors[0].getParameterCount(), 0);
-        Script.due("final", Modifier.isFinal(BoreDesk.class.getModifiers()) ? 1 : 0, 1);
+        Script.due("it is public", constructors[0].getModifiers(), Modifier.PUBLIC);
+        Script.due("public and final", BoreDesk.class.getModifiers(), Modifier.PUBLIC | Modifier.FINAL);
         for (Field field : BoreDesk.class.getDeclaredFields()) {
             Script.due(field + " is private", Modifier.isPrivate(field.getModifiers()) ? 1 : 0, 1);
         }

@@ -196,6 +196,10 @@ final class Script {
     }
 
     private long callText(String text) {
+        return call(desk, text);
+    }
+
+    static long call(BoreDesk desk, String text) {
         Method method = METHODS.get(nameOf(text));
         String inside = text.substring(text.indexOf('(') + 1, text.lastIndexOf(')')).trim();
         String[] words = inside.isEmpty() ? new String[0] : inside.split(",");
@@ -203,7 +207,7 @@ final class Script {
         for (int k = 0; k < words.length; k++) {
             String word = words[k].trim();
             boolean isBoolean = method.getParameterTypes()[k] == boolean.class;
-            args[k] = isBoolean ? (Object) Boolean.valueOf(word) : (Object) Integer.valueOf(word);
+            args[k] = isBoolean ? (Object) Boolean.valueOf(word) : (Object) Integer.decode(word);
         }
         return call(desk, method, args);
     }

@@ -8,9 +8,10 @@ import java.util.regex.Matcher;
 import java.util.regex.Pattern;
 
 /**
- * Tests that each quote a sentence of ../shared/DOC.md: 'Terms', a part ('2 PICKING' to '6 STATUS') or a promise
- * ('Promise 1' to 'Promise 55') is named, and the words must stand in it. finish() fails, if a part that was to be
- * gone through has words that no test quotes: so a sentence can't be left without a test of its own.
+ * Tests that each quote a sentence of ../shared/DOC.md: a heading ('What it is', 'The public face', 'Terms', 'Not
+ * promised'), a part ('2 PICKING' to '6 STATUS') or a promise ('Promise 1' to 'Promise 55') is named, and the words
+ * must stand in it. finishParts() and finishPromises() fail, if one that was to be gone through has words that no test
+ * quotes: so a sentence can't be left without a test of its own.
  */
 final class Sentence {
     private static final Pattern PART = Pattern.compile("==== (\\d [A-Z]+)");
@@ -83,6 +84,8 @@ final class Sentence {
                 keep(title.substring(0, title.indexOf(':')), text.replaceFirst("^\\s*`[^`]*`: ", ""));
             } else if (title.equals("Terms")) {
                 readParts(text);
+            } else {
+                keep(title, text);
             }
         }
     }
